@@ -134,23 +134,19 @@ public final class MoreEven {
         if (!first.isReady() || !second.isReady()) {
             return STATE;
         }
-        lookAtBoth(first, second, scale, kind);
+        first.startFillings();
+        walk.first.look(first, scale, kind == 0);
+        second.startFillings();
+        walk.second.look(second, scale, kind == 0);
         return walk.told(kind);
     }
 
     public int where(int a, int b, int scale, int kind, boolean upper) {
-        Town first = townAt(a);
-        Town second = townAt(b);
-        if (first == null || second == null) {
-            return UNKNOWN;
+        int told = order(a, b, scale, kind);
+        if (told < 0) {
+            return told;
         }
-        if (!isScale(scale) || !isOrder(kind)) {
-            return OUTSIDE;
-        }
-        if (!first.isReady() || !second.isReady()) {
-            return STATE;
-        }
-        lookAtBoth(first, second, scale, kind);
+        // order() has left both towns in the walk.
         long at = walk.firstMore(kind);
         return at == NONE ? NONE : (int) inLeastTerms(at, walk.atEnd(), upper);
     }
@@ -552,13 +548,6 @@ public final class MoreEven {
             other = rest;
         }
         return one;
-    }
-
-    private void lookAtBoth(Town first, Town second, int scale, int kind) {
-        first.startFillings();
-        walk.first.look(first, scale, kind == 0);
-        second.startFillings();
-        walk.second.look(second, scale, kind == 0);
     }
 
     private static boolean canTryAll(Town first, Town second) {
