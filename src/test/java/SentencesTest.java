@@ -200,6 +200,19 @@ final class SentencesTest {
         put(y, 1, 0);
         // Tall both are the same at 0 0, else the first is ahead: the answer 1 settles, of both families.
         due("tall of like ones", y.ask(0, 1, 0, 1), 0);
+        MoreEven z = new MoreEven();
+        z.family(0, 0, 1, 9, 0);
+        z.family(0, 0, 1, 1, 0);
+        put(z, 1, 0, 5);
+        // By heads: ahead at 0 0 and 1 0, behind at 0 1, neither at 1 1; only 0 of family 1 settles.
+        due("the answer 0 settles", z.ask(0, 1, 1, 0), 1);
+        z.clear(0);
+        z.family(0, 1, 2, 1, 0);
+        z.family(0, 0, 1, 1, 0);
+        z.know(1, 0, 0, 1);
+        z.know(1, 1, 0, 0);
+        // With 0 of family 1 it is behind one without anything, but the same as 1 0.
+        due("nothing in the second: none settles", z.ask(0, 1, 0, 0), 0);
     }
 
     private void orders() {
